@@ -785,7 +785,7 @@ public final class CuckooShares {
             faultPlace = 0;
             tokensRead = 0;
             int at = 0;
-            while (at < size && at < most) {
+            for (int step = 0; step < TAPE_MOST && at < size && at < most; step++) {
                 int sign = byteAt(at);
                 if (isInRun(sign)) {
                     at = scanRun(at);
@@ -1789,10 +1789,11 @@ public final class CuckooShares {
             if (why != 0) {
                 return why;
             }
-            if ((liars(days) >> o & 1) == 1) {
-                days.sworn[o] = NONE;
-            } else {
+            // The camp stands as whyNotCalled() pitched it.
+            if ((camp.hearers(days.flight, days.sworn[o]) >> o & 1) == 1) {
                 days.coins[m]--;
+            } else {
+                days.sworn[o] = NONE;
             }
             return 0;
         }
