@@ -86,6 +86,7 @@ public final class HonestTest {
         Check.valley(x, "hill a 0 0;man m a 0 0;flight 2 0;");
         CHECK.due("of like places the first", x.hut(0), 0);
         CHECK.due("rows go by Y", Check.valleyOf("hill a 0 0;man m a 0 0;flight 2 1 0 5 5;").hut(0), 405);
+        CHECK.due("the last place", Check.valleyOf("hill a 0 0;man m a 0 0;flight 2 0 0 20 20;").hut(0), 2020);
         CuckooShares fall = Check.valleyOf("hill a 5 5;fall a 9;man m a 0 0;flight 2 0 0 5 5;");
         CHECK.due("a fall on the HILL", fall.mean(0, 0), 0);
         CHECK.due("none at the hut", fall.hut(0), 505);

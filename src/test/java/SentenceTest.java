@@ -128,7 +128,10 @@ public final class SentenceTest {
         said(x, "number=0 or number=1 or number=2 and number=3", 3);
         x.comes(0);
         x.hours(2);
+        CHECK.due("a hut that was thought of", x.hut(0) >= 0, true);
         said(x, "heard", 9);
+        x.hut(0);
+        said(x, "lied", 0);
         x.swear(1, 0);
         said(x, "sworn", 2);
         said(x, "lied", 2);

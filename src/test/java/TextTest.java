@@ -99,6 +99,7 @@ public final class TextTest {
         lines("flight 9 20;flight 1 0 0 0 0;flight 1 0 0 20 20 99 20 20;", 3);
         lines("flight 1 1 0 0 0 1 0 0 2 0 0 3 0 0 4 0 0 5 0 0 6 0 0 7 0 0 8 0 0 9 0 0;", 1);
         lines("hill ridges 1 1;hill hills 1 1;hill o 1 1;", 3);
+        lines("hill a 1 1;hill aa 1 1;hill aaaaaaa 1 1;hill b 1 1;hill bb 1 1;hill z 1 1;hill zz 1 1;hill zzzzzzz 1 1;", 8);
         CuckooShares x = Check.valleyOf("wheat 007;");
         CHECK.due("wheat 007", x.count(4), 7);
     }
@@ -168,6 +169,8 @@ public final class TextTest {
         fault("ridge 1;ridge 2;", 8, 3);
         fault("ridge 1;ridge", 8, 3);
         fault("wheat 1;wheat 2;", 8, 3);
+        fault("ridge 1;wheat 1;wind east 1;ridge 1;", 28, 3);
+        fault("ridge 1;wheat 1;wind east 1;wheat 1;", 28, 3);
         fault("wind east 1;wind east 1;", 12, 3);
         fault("hill h 1 1;hill h 1 1;", 16, 3);
         fault("hill h 1 1;man h h 1 1;", 15, 3);
@@ -180,6 +183,7 @@ public final class TextTest {
         fault(ahead + "fall x 1;", 40, 3);
         fault(ahead + "fall h 1;fall h 1;", 49, 3);
         fault(ahead + "fall h 0;fall h 1;", 49, 3);
+        fault("hill a 1 1;hill b 1 1;fall a 1;fall b 1;fall a 1;", 45, 3);
         fault(ahead + "old h;", 39, 3);
         fault(ahead + "old x;", 39, 3);
         fault(ahead + "old m;old m;", 45, 3);
