@@ -602,7 +602,8 @@ public final class CuckooShares {
     public int crowded() {
         camp.pitch(days);
         int best = NONE;
-        int most = 0;
+        // Below any number of sharers: a FLIGHT in which nobody shares is a FLIGHT, too.
+        int most = NONE;
         for (int f = 0; f < valley.flights; f++) {
             camp.listen(f);
             camp.countHonest(f);

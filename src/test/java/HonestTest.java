@@ -174,8 +174,11 @@ public final class HonestTest {
         String men = "hill a 0 0;hill b 9 0;man m a 0 0;man n a 0 0;man o b 0 0;";
         CHECK.due("of like ones the first", Check.valleyOf(men + "flight 1 0 0 9 0;flight 9 0 0 0 0;flight 1 0 1 0 0;").crowded(), 1);
         CHECK.due("one shares", Check.valleyOf(men + "flight 1 0;flight 9 0 0 20 0;flight 1 0 1 9 0;").crowded(), 2);
-        CHECK.due("nobody shares", Check.valleyOf(men + "flight 1 0;").crowded(), -1);
+        CHECK.due("nobody shares", Check.valleyOf(men + "flight 1 0;").crowded(), 0);
+        CHECK.due("nobody shares in either", Check.valleyOf(men + "flight 1 0;flight 9 0 0 20 0;").crowded(), 0);
+        CHECK.due("no MEN", Check.valleyOf("flight 1 1;").crowded(), 0);
         CHECK.due("no FLIGHTS", Check.valleyOf(men).crowded(), -1);
+        CHECK.due("a new object", new CuckooShares().crowded(), -1);
         CHECK.due("both valleys are counted", Check.valleyOf("ridge 5;" + men + "flight 1 0 0 0 0;flight 1 20 0 0 0;").crowded(), 1);
     }
 

@@ -840,7 +840,7 @@ final class Model {
 
     int crowded() {
         int best = NONE;
-        int most = 0;
+        int most = -1;
         for (int f = 0; f < land.flights.size(); f++) {
             int[] oaths = honestOaths(f, onHills(now));
             int n = Integer.bitCount(bits(m -> oaths[m] != NONE));
