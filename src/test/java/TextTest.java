@@ -1,10 +1,5 @@
 /** Promises 1 to 5 and 44, and all FAULTS of a VALLEY: the tape, TOKENS, LINES, limits. */
 public final class TextTest {
-    private static final String[] RESERVED = {
-        "ridge", "wheat", "wind", "north", "east", "south", "west", "hill", "fall", "man", "old", "deaf", "needs",
-        "flight", "comes", "hour", "moves", "swears", "calls", "shares", "or", "and", "not", "sworn", "lied", "on",
-        "heard", "coin", "store", "ear", "number",
-    };
     private static final Check CHECK = new Check();
 
     public static void main(String[] args) {
@@ -132,7 +127,7 @@ public final class TextTest {
         fault("hill a1 1 1;", 5, 1);
         fault("hill 1 1 1;", 5, 1);
         fault("hill h 1;", 8, 1);
-        for (String word : RESERVED) {
+        for (String word : Check.RESERVED) {
             fault("hill " + word + " 1 1;", 5, 1);
             fault("fall " + word + " 1;", 5, 1);
             fault("hill h 1 1;man " + word + " h 1 1;", 15, 1);
