@@ -29,7 +29,7 @@ final class Check {
         compared++;
         if (got != want) {
             wrong++;
-            System.out.println(sentence + what + " answered " + told(got) + ", due is " + told(want));
+            System.out.println(sentence + readable(what) + " answered " + told(got) + ", due is " + told(want));
         }
     }
 
@@ -37,8 +37,21 @@ final class Check {
         compared++;
         if (!got.equals(want)) {
             wrong++;
-            System.out.println(sentence + what + " is\n  " + got + ", due is\n  " + want);
+            System.out.println(sentence + readable(what) + " is\n  " + got + ", due is\n  " + want);
         }
+    }
+
+    /** Texts under test hold any bytes: those that can't be printed are told by their numbers. */
+    private static String readable(String what) {
+        StringBuilder text = new StringBuilder();
+        for (char sign : what.toCharArray()) {
+            if (sign >= 32 && sign < 127) {
+                text.append(sign);
+            } else {
+                text.append('{').append((int) sign).append('}');
+            }
+        }
+        return text.toString();
     }
 
     void due(String what, boolean got, boolean want) {
